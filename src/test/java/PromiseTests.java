@@ -380,6 +380,8 @@ public final class PromiseTests {
         due("run again at 80", x.stop(0, true, 80), 1);
         due("one more than before 80, again", x.gear(0, 80), 5);
         due("and on", x.gear(0, 100), 6);
+        x.stop(0, false, 101);
+        due("from the gear that it has had for one millisecond", x.gear(0, 101), 5);
     }
 
     private static void stopMovesItems() {
