@@ -7,8 +7,11 @@ import java.util.Random;
  * by millisecond: every answer must be the same.
  */
 public final class ModelRuns {
-    private static final int RUNS = 600;
+    private static final int RUNS = 800;
+    /** More calls than these are not promised to be answered. */
     private static final int CALLS = 512;
+    /** So many are kept for reading edges in the end. */
+    private static final int READS = 120;
     private static final int NONE = -1, UNKNOWN = -11, OUTSIDE = -12, STATE = -13, ROOM = -14;
 
     private static final class ModelBelt {
@@ -254,6 +257,7 @@ public final class ModelRuns {
         final Model model = new Model();
         final int pace;
         final int crowd;
+        int calls = 0;
         int wrong = 0;
 
         Run(int number) {
@@ -279,18 +283,23 @@ public final class ModelRuns {
         }
 
         void due(String call, long got, long want) {
+            calls++;
             if (got == want) return;
             wrong++;
             System.out.println(call + " at " + model.now + " answered " + got + ", due is " + want);
         }
 
-        int all(int calls) {
+        int all() {
             setUp();
-            for (int c = 0; c < calls && wrong == 0; c++) one(random.nextInt(100));
-            for (int i = 0; i < model.edges.size() + 2 && wrong == 0; i++) {
-                for (int what = -1; what <= 4; what++) due("edge " + i + " " + what, x.edge(i, what), model.edge(i, what));
-            }
+            while (calls < CALLS - READS && wrong == 0) one(random.nextInt(100));
+            // Not all can be read within one object's calls: each run reads those from some edge on.
+            int first = within(0, Math.min(model.edges.size(), 400) - READS / 8);
+            for (int k = 0; calls < CALLS && wrong == 0; k++) readEdge(first + k / 4, k % 4);
             return wrong;
+        }
+
+        void readEdge(int i, int what) {
+            due("edge " + i + " " + what, x.edge(i, what), model.edge(i, what));
         }
 
         void setUp() {
@@ -313,7 +322,8 @@ public final class ModelRuns {
         void look(int dice) {
             int a = someItem(), b = someItem(), belt = someBelt();
             long t = aheadTime();
-            if (dice < 75) due("place " + a + " " + t, x.place(a, t), model.place(a, t));
+            if (dice < 64) readEdge(within(-1, model.edges.size()), within(-1, 4));
+            else if (dice < 76) due("place " + a + " " + t, x.place(a, t), model.place(a, t));
             else if (dice < 83) due("gap " + a + " " + b, x.gap(a, b), model.gap(a, b));
             else if (dice < 90) due("count " + belt, x.count(belt), model.count(belt));
             else due("gear " + belt + " " + t, x.gear(belt, t), model.gear(belt, t));
@@ -364,7 +374,7 @@ public final class ModelRuns {
         int shorts = 0;
         for (int number = 0; number < RUNS; number++) {
             Run run = new Run(number);
-            if (run.all(CALLS) != 0) {
+            if (run.all() != 0) {
                 wrong++;
                 System.out.println("run " + number + " went wrong there");
             }

@@ -576,11 +576,11 @@ public final class PromiseTests {
         due("gear(0, 1000000)", x.gear(0, 1000000), 8);
         x.stop(0, false, 7);
         due("gear(0, 6)", x.gear(0, 6), OUTSIDE);
-        for (int t = 7; t < 400; t++) due("down at " + t, x.gear(0, t), Math.max(0, 7 - (t - 7) / 20));
+        for (int t = 7; t < 200; t++) due("down at " + t, x.gear(0, t), Math.max(0, 7 - (t - 7) / 20));
         due("the other belt's", x.gear(1, 100), 8);
         due("nothing has passed", x.step(7), 0);
         x.stop(0, true, 100);
-        for (int t = 100; t < 400; t++) due("up at " + t, x.gear(0, t), Math.min(8, 4 + (t - 100) / 20));
+        for (int t = 100; t < 300; t++) due("up at " + t, x.gear(0, t), Math.min(8, 4 + (t - 100) / 20));
         due("at the last time", x.gear(0, 1000000), 8);
         x.stop(0, false, 1000000);
         due("told at the last time", x.gear(0, 1000000), 7);
