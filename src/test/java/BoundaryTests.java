@@ -754,6 +754,7 @@ public final class BoundaryTests {
         frontLaterWhenItSlipsBefore();
         edgesAnewOnTheNextBelt();
         edgesOfABeltThatStops();
+        edgesOfABeltTooSlowForItsGear();
         edgesAtTheLastTime();
     }
 
@@ -920,6 +921,40 @@ public final class BoundaryTests {
         due("count before", z.count(0), 1);
         z.step(210);
         due("count then", z.count(0), 0);
+    }
+
+    private static void edgesOfABeltTooSlowForItsGear() {
+        about = "edges of a belt that moves by nothing before its gear is 0, or above it";
+        // At speed 4 the gears 7 .. 2 move by 3, 3, 2, 2, 1, 1, which is 240 in all, and gear 1 by nothing.
+        BeltSteps x = oneBelt(100480, 4);
+        x.feed(0, 1, 0);
+        x.stop(0, false, 12500);
+        due("until one before", x.step(12619), 0);
+        due("its last place is the sensor's", x.step(12620), 1);
+        due("no end", x.step(100000), 0);
+        dueEdges(x, edge(12620, 0, 1, 0));
+        due("run", x.stop(0, true, 100000), 1);
+        due("gear 1 moves by nothing", x.step(100020), 0);
+        due("gear 2 by 1", x.step(100021), 1);
+        dueEdges(x, edge(12620, 0, 1, 0), edge(100021, 0, 1, 1));
+        BeltSteps y = oneBelt(100240, 4);
+        y.feed(0, 100000, 0);
+        y.stop(0, false, 25000);
+        due("one before its end", y.place(1, 25119), 100239);
+        due("its last place is the end", y.place(1, 25120), NONE);
+        y.step(25119);
+        due("count before", y.count(0), 1);
+        y.step(25120);
+        due("count then", y.count(0), 0);
+        // At speed 1 gear 8 alone moves.
+        BeltSteps z = oneBelt(100000, 1);
+        z.feed(0, 1, 0);
+        z.stop(0, false, 49999);
+        due("one before the sensor, in gear 7", z.step(60000), 0);
+        z.stop(0, true, 60000);
+        due("still in gear 7", z.step(60140), 0);
+        due("a millisecond in gear 8", z.step(60141), 1);
+        dueEdges(z, edge(60141, 0, 1, 0));
     }
 
     private static void edgesAtTheLastTime() {
