@@ -7,7 +7,9 @@ import java.util.Random;
  * by millisecond: every answer must be the same.
  */
 public final class ModelRuns {
-    private static final int RUNS = 800;
+    private static final int RUNS = 824;
+    /** From this one on runs are wide: long belts, long times. The model is slow in them, so they are few. */
+    private static final int FIRST_WIDE = 800;
     /** More calls than these are not promised to be answered. */
     private static final int CALLS = 512;
     /** So many are kept for reading edges in the end. */
@@ -255,6 +257,7 @@ public final class ModelRuns {
         final Random random;
         final BeltSteps x = new BeltSteps();
         final Model model = new Model();
+        final boolean wide;
         final int pace;
         final int crowd;
         int calls = 0;
@@ -262,7 +265,9 @@ public final class ModelRuns {
 
         Run(int number) {
             random = new Random(number * 7919L + 1);
-            pace = new int[] {1, 3, 8, 30, 100}[random.nextInt(5)];
+            wide = number >= FIRST_WIDE;
+            int[] paces = wide ? new int[] {100, 400, 1500, 4000, 9000} : new int[] {1, 3, 8, 30, 100};
+            pace = paces[random.nextInt(5)];
             crowd = new int[] {1, 4, 30}[random.nextInt(3)];
         }
 
@@ -279,7 +284,8 @@ public final class ModelRuns {
 
         long aheadTime() {
             if (random.nextInt(20) == 0) return someTime();
-            return Math.min(1000000, model.now + random.nextInt(400));
+            int most = !wide ? 400 : random.nextInt(8) != 0 ? 20000 : 1000000;
+            return Math.min(1000000, model.now + random.nextInt(most));
         }
 
         void due(String call, long got, long want) {
@@ -330,9 +336,13 @@ public final class ModelRuns {
         }
 
         void makeBelt() {
-            long length = pick(100000, 100001, 100000 + random.nextInt(100000), 99999, 250000, 150001);
+            long length = wide ? wideLength() : pick(100000, 100001, 100000 + random.nextInt(100000), 99999, 250000, 150001);
             long speed = pick(1, 3, 7, 100, 1000, 2501, 4999, 5000, 5000, 0, 5001, within(1000, 5000));
             due("belt", x.belt(length, speed), model.belt(length, speed));
+        }
+
+        long wideLength() {
+            return pick(100000, within(100000, 200000), within(1000000, 2000000), within(10000000, 20000000), 100000000, 100000001);
         }
 
         void joinBelts(int belt, int to) {
